@@ -175,6 +175,8 @@ final class LightTest {
         Check.same("glare 1: 10 / 20 is rounded down", receivedInGlare(1, 10, 6, 2), "-1");
         Check.same("glare 6: 4 + 0 + 4, no burst is below 0", receivedInGlare(6, 16, 1, 1, 1, 8), "3");
         Check.same("glare 2: 2 + 0 + 2", receivedInGlare(2, 16, 1, 1, 1, 8), "-1");
+        Check.same("glare 4: 3 + 0 + 3", receivedInGlare(4, 16, 1, 1, 1, 8), "-1");
+        Check.same("glare 4: 3 + 0 + 4", receivedInGlare(4, 16, 1, 1, 2, 8), "3");
         Check.same("glare 2: a missed burst is as short as it was heard", receivedInGlare(2, 16, 1, 2, 2, 8), "-1");
         Check.same("glare 2: 3 + 1 + 3", receivedInGlare(2, 16, 2, 2, 2, 8), "3");
     }

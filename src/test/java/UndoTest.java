@@ -62,6 +62,13 @@ final class UndoTest {
         x.repeat(10);
         x.undo();
         Check.same("the time before the repeat", x.pass(1), 11);
+        x.learn(3, 2);
+        Check.isUndoable("a press with an action", x, y -> y.frame(0, 3, 0, 10));
+        Check.isUndoable("a hold", x, y -> y.repeat(10));
+        x.repeat(10);
+        int doneBefore = x.done(3);
+        Check.isUndoable("a second hold with an action", x, y -> y.repeat(10));
+        Check.same("what was done", x.done(3), doneBefore);
         Check.type(x, "r");
         x.undo();
         Check.same("the buffer stays", x.clearText(), 1);
