@@ -1,6 +1,12 @@
+import java.util.LinkedHashSet;
+import java.util.Set;
+
 /** What the tests share: they compare answers, look at whole receivers, and count what is wrong. */
 final class Check {
+    private static final int MOST_TOLD = 200;
+    private static final Set<String> SENTENCES = new LinkedHashSet<>();
     private static int wrong = 0;
+    private static String tried = "";
 
     private Check() {
     }
@@ -10,10 +16,27 @@ final class Check {
         Object on(LightReceiver receiver);
     }
 
+    /** What is compared from here on tries these words of that section of the document. */
+    static void sentence(String section, String words) {
+        SENTENCES.add(section + ": " + words);
+        tried = section + " '" + words + "': ";
+    }
+
+    /** The words that were tried so far, each behind the name of its section. */
+    static Set<String> sentences() {
+        return SENTENCES;
+    }
+
+    static void endOfSentences() {
+        tried = "";
+    }
+
     static void same(String what, Object got, Object due) {
         if (!got.equals(due)) {
             wrong++;
-            System.out.println(what + " answered " + got + ", due is " + due);
+            if (wrong <= MOST_TOLD) {
+                System.out.println(tried + what + " answered " + got + ", due is " + due);
+            }
         }
     }
 

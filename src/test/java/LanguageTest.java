@@ -9,16 +9,15 @@ import java.util.regex.Pattern;
 /** Those rules of LANGUAGE.md that can be seen in the text of the program; it is run where the project lies. */
 final class LanguageTest {
     private static final Path SOURCE = Path.of("src/main/java/LightReceiver.java");
-    private static final int LONGEST_METHOD = 60;
+    private static final int LONGEST_METHOD = 65;
 
     public static void main(String[] args) throws IOException {
         byte[] bytes = Files.readAllBytes(SOURCE);
         for (byte one : bytes) {
             Check.same("a sign is 1 to 127", one > 0, true);
         }
-        String text = withoutComments(new String(bytes, StandardCharsets.ISO_8859_1));
-        Check.same("constants are told from code", text.contains("\"an argument is out of range\""), true);
-        String code = text.replaceAll("\"[^\"\n]*\"", "\"\"").replaceAll("'[^'\n]*'", "' '");
+        Check.same("code is told from the rest", codeOf("a(\"x::y\", '+'); // z\n/* v\n */b"), "a(\"\", ' '); \nb");
+        String code = codeOf(new String(bytes, StandardCharsets.ISO_8859_1));
         noForbiddenWord(code);
         onlyKnownFunctions(code);
         onlyKnownExceptions(code);
@@ -27,37 +26,52 @@ final class LanguageTest {
         Check.end();
     }
 
-    private static String withoutComments(String text) {
-        return text.replaceAll("(?s)/\\*.*?\\*/", "").replaceAll("//[^\n]*", "");
+    /** The text without comments, and with nothing between the signs around texts and characters. */
+    private static String codeOf(String text) {
+        String withoutComments = text.replaceAll("(?s)/\\*.*?\\*/", "").replaceAll("//[^\n]*", "");
+        return withoutComments.replaceAll("\"[^\"\n]*\"", "\"\"").replaceAll("'[^'\n]*'", "' '");
     }
 
     private static void noForbiddenWord(String code) {
         String[] words = {
-            "package\\b", "import\\b", "->", "::", "\\bsynchronized\\b", "\\bassert\\b", "\\bfinally\\b", "\\bcatch\\b",
-            "\\btry\\b", "\\bequals\\b", "\\bhashCode\\b", "\\btoString\\b", "\\bObject\\b", "\\bThread\\b",
-            "\\bfloat\\b", "\\w+Exact\\b", "\\bprotected\\b", "\\bnative\\b", "\\bvar\\b", "\\bstatic\\s*\\{", "@\\w+"
+            "\\bpackage\\b", "::", "\\bsynchronized\\b", "\\bassert\\b", "\\bfinally\\b", "\\btry\\s*\\(",
+            "\\bObject\\b", "\\bThread\\b", "\\w+Exact\\b", "\\bprotected\\b", "\\bnative\\b", "\\bstatic\\s*\\{",
+            "\\bboolean\\s+equals\\s*\\(", "\\bint\\s+hashCode\\s*\\(", "\\bString\\s+toString\\s*\\(",
+            "\\bextends\\s+\\w*Exception\\b", "\\bimport\\s+(?!java\\.util\\.\\w+;)"
         };
         for (String word : words) {
             Check.same(word, Pattern.compile(word).matcher(code).find(), false);
         }
+        for (String line : code.split("\n")) {
+            boolean isLambda = line.contains("->") && !line.matches("\\s*(case\\b[^>]*|default\\s*)->.*");
+            Check.same("a lambda in" + line, isLambda, false);
+        }
     }
 
     private static void onlyKnownFunctions(String code) {
-        Set<String> known = Set.of("Math.max", "Math.min", "Integer.bitCount", "System.arraycopy");
-        Matcher matcher = Pattern.compile("\\b(?:Math|Integer|Long|System|Arrays|String|Double|Character|java)\\.\\w+")
+        Set<String> known = Set.of("compare", "max", "min", "abs", "signum", "sum", "bitCount", "floorDiv", "floorMod",
+                "numberOfLeadingZeros", "numberOfTrailingZeros", "highestOneBit", "lowestOneBit", "MAX_VALUE", "MIN_VALUE",
+                "rotateLeft", "rotateRight", "arraycopy", "copyOf", "copyOfRange", "fill");
+        Matcher matcher = Pattern.compile("\\b(?:Math|Integer|Long|System|Arrays|String|Double|Character)\\.(\\w+)")
                 .matcher(code);
         while (matcher.find()) {
-            Check.same(matcher.group() + " is known", known.contains(matcher.group()), true);
+            Check.same(matcher.group() + " is known", known.contains(matcher.group(1)), true);
         }
     }
 
+    /** What the Java machine throws is not caught either, by its own name or by that of a class above it. */
     private static void onlyKnownExceptions(String code) {
         Matcher matcher = Pattern.compile("\\bthrow\\b[^;]*;").matcher(code);
-        Pattern right = Pattern.compile(
-                "throw new (IllegalStateException|IllegalArgumentException|IndexOutOfBoundsException)\\(\"\"\\);");
+        Pattern right = Pattern.compile("throw new (IllegalStateException|IllegalArgumentException|"
+                + "IndexOutOfBoundsException|ArithmeticException|UnsupportedOperationException|NoSuchElementException|"
+                + "RuntimeException)\\((\"\")?\\);");
         while (matcher.find()) {
             Check.same(matcher.group(), right.matcher(matcher.group()).matches(), true);
         }
+        Pattern machine = Pattern.compile("\\bcatch\\s*\\([^)]*\\b(Throwable|Error|Exception|RuntimeException|"
+                + "IndexOutOfBoundsException|ArrayIndexOutOfBoundsException|StringIndexOutOfBoundsException|"
+                + "NullPointerException|ClassCastException|NegativeArraySizeException|ArrayStoreException)\\b");
+        Check.same("what the machine throws is caught", machine.matcher(code).find(), false);
     }
 
     private static void noJoinedTexts(String code) {

@@ -80,20 +80,24 @@ final class LightTest {
     }
 
     private static void promise2WrongFrames() {
-        LightReceiver x = new LightReceiver();
-        x.frame(0, 2, 1, 9);
         for (int wrong : new int[] {-1, 8, Integer.MIN_VALUE, Integer.MAX_VALUE}) {
-            Check.refuses("address " + wrong, x, ARGUMENT, y -> y.frame(wrong, 0, 0, 10));
+            Check.refuses("address " + wrong, afterAFrame(), ARGUMENT, y -> y.frame(wrong, 0, 0, 10));
         }
         for (int wrong : new int[] {-1, 16, Integer.MIN_VALUE, Integer.MAX_VALUE}) {
-            Check.refuses("code " + wrong, x, ARGUMENT, y -> y.frame(0, wrong, 0, 10));
+            Check.refuses("code " + wrong, afterAFrame(), ARGUMENT, y -> y.frame(0, wrong, 0, 10));
         }
         for (int wrong : new int[] {-1, 2, Integer.MIN_VALUE, Integer.MAX_VALUE}) {
-            Check.refuses("toggle " + wrong, x, ARGUMENT, y -> y.frame(0, 0, wrong, 10));
+            Check.refuses("toggle " + wrong, afterAFrame(), ARGUMENT, y -> y.frame(0, 0, wrong, 10));
         }
         for (int wrong : new int[] {-1, 0, 11, Integer.MIN_VALUE, Integer.MAX_VALUE}) {
-            Check.refuses("strength " + wrong, x, ARGUMENT, y -> y.frame(0, 0, 0, wrong));
+            Check.refuses("strength " + wrong, afterAFrame(), ARGUMENT, y -> y.frame(0, 0, 0, wrong));
         }
+    }
+
+    private static LightReceiver afterAFrame() {
+        LightReceiver x = new LightReceiver();
+        x.frame(0, 2, 1, 9);
+        return x;
     }
 
     private static void promise3Repeat() {
@@ -266,7 +270,7 @@ final class LightTest {
         for (int wrong : new int[] {-1, 0, 100, Integer.MIN_VALUE, Integer.MAX_VALUE}) {
             Check.refuses("ticks " + wrong, x, ARGUMENT, y -> y.pass(wrong));
         }
-        for (int i = 0; i < 400; i++) {
+        for (int i = 0; i < 200; i++) {
             Check.same("much time", x.pass(99), 7 + 99 * (i + 1));
         }
     }

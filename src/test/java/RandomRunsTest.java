@@ -1,10 +1,15 @@
 import java.util.List;
 import java.util.Random;
 
-/** Long runs of calls, the same ones each time, on a receiver and on the model; every answer is compared. */
+/**
+ * Long runs of calls, the same ones each time, on a receiver and on the model; every answer is compared. An object is
+ * used for no more than 512 calls.
+ */
 final class RandomRunsTest {
-    private static final int RUNS = 600;
-    private static final int STEPS = 150;
+    private static final int RUNS = 1500;
+    private static final int MOST_CALLS = 512;
+    /** No step makes more calls than this. */
+    private static final int CALLS_OF_A_STEP = 60;
     private static final String IAE = "throws IllegalArgumentException";
     private static final String ISE = "throws IllegalStateException";
     private static final String IOOBE = "throws IndexOutOfBoundsException";
@@ -13,6 +18,7 @@ final class RandomRunsTest {
     private final String name;
     private final LightReceiver x = new LightReceiver();
     private final Model model = new Model();
+    private int calls = 0;
 
     private RandomRunsTest(int seed) {
         random = new Random(seed);
@@ -22,10 +28,11 @@ final class RandomRunsTest {
     public static void main(String[] args) {
         for (int seed = 1; seed <= RUNS; seed++) {
             RandomRunsTest run = new RandomRunsTest(seed);
-            for (int step = 0; step < STEPS; step++) {
+            while (run.calls <= MOST_CALLS - CALLS_OF_A_STEP) {
                 run.step();
                 run.compareState();
             }
+            Check.same("calls of a run", run.calls <= MOST_CALLS, true);
         }
         Check.end();
     }
@@ -108,6 +115,7 @@ final class RandomRunsTest {
     }
 
     private void compare(String what, Check.Call call, Object due) {
+        calls++;
         Check.same(name + what, Check.answer(x, call), String.valueOf(due));
     }
 
