@@ -549,7 +549,7 @@ public final class LightReceiver {
             if (count >= states.length) {
                 discardOldest();
             }
-            if (count >= 0 && count < states.length) {
+            if (count >= 0 && count < states.length && states[count] != null) {
                 states[count].become(state);
                 count++;
             }
@@ -557,16 +557,20 @@ public final class LightReceiver {
 
         /** The object of the oldest state goes to the end, where the next state is written over it. */
         private void discardOldest() {
-            State oldest = states[0];
-            for (int i = 1; i < states.length; i++) {
-                states[i - 1] = states[i];
+            int last = states.length - 1;
+            if (last < 0) {
+                return;
             }
-            states[states.length - 1] = oldest;
-            count = states.length - 1;
+            State oldest = states[0];
+            for (int i = 0; i < last; i++) {
+                states[i] = states[i + 1];
+            }
+            states[last] = oldest;
+            count = last;
         }
 
         void giveBack(State state) {
-            if (count > 0 && count <= states.length) {
+            if (count > 0 && count <= states.length && states[count - 1] != null) {
                 count--;
                 state.become(states[count]);
             }

@@ -370,6 +370,10 @@ final class LightEdges {
         LightReceiver x = new LightReceiver();
         Check.same("one burst of three missed", received(x, 10, 16, 1, 1, 1, 4), IS_REPEAT);
         Check.same("the gain", x.gain(), 9);
+        Check.same("light that is accepted", received(x, 10, split(Check.frameOf("000000000"), 1, 1, 1, 1)), 0);
+        Check.same("the gain after a press", x.gain(), 8);
+        Check.same("light that is accepted", received(x, 10, 1, 1, 16, 1, 4, 1, 1), -1);
+        Check.same("the gain after a hold", x.gain(), 7);
     }
 
     private static void gainRisesToTheGlare() {

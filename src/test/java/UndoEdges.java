@@ -323,6 +323,9 @@ final class UndoEdges {
             x.frame(0, 0, 1, 10);
             isDigest(x);
             x.frame(0, 15, 1, 10);
+            x.repeat(10);
+            x.repeat(10);
+            x.repeat(10);
             x.pass(60);
             isDigest(x);
             x.pass(1);
